@@ -29,10 +29,12 @@ public final class PromiseTests {
         promise12PerformAllOrNone();
         promise13Stopped();
         promise14Undo();
+        promise14UndoOfEachAct();
         promise15Keep();
         promise16Restore();
         promise17Column();
         promise18Season();
+        promise18SeasonWithoutRemovedRows();
         promise19Value();
         promise20Read();
         promise21SeasonOf();
@@ -376,6 +378,13 @@ public final class PromiseTests {
         due("undo()", x.undo(), 3);
         due("now", x.count(0), 1);
         due("drop(0)", x.drop(0), 2);
+        ColumnSeasons last = new ColumnSeasons();
+        last.row();
+        last.add(0, DIGIT, 1);
+        last.row();
+        last.remove(1);
+        last.remove(0);
+        due("a removed row holds no season", last.forget(), 1);
         ColumnSeasons full = fullOfSeasons();
         due("forget() when full", full.forget(), 29);
         due("drop(0)", full.drop(0), 1);
@@ -489,6 +498,9 @@ public final class PromiseTests {
         ColumnSeasons standards = new ColumnSeasons();
         perform(standards, "add 0 digit 5;add 1 digit");
         due("column(2, 1, 1)", standards.column(2, 1, 1), 0);
+        perform(standards, "add 2 digit 7");
+        perform(standards, "add 3 digit");
+        due("column(4, 3, 1)", standards.column(4, 3, 1), 0);
     }
 
     private static void promise12PerformAllOrNone() {
@@ -591,6 +603,58 @@ public final class PromiseTests {
         due("value(0, 0)", x.value(0, 0), 4);
     }
 
+    private static void promise14UndoOfEachAct() {
+        CHECKS.topic("promise 14, each act");
+        for (int act = 0; act < 10; act++) {
+            ColumnSeasons x = withRows(3);
+            x.add(1, DIGIT, 6);
+            x.add(2, FLAG, 1);
+            x.keep();
+            x.set(0, 0, 99);
+            write(x, "row;drop 1");
+            String before = told(x);
+            CHECKS.dueThat("act " + act + " is done", doAct(x, act) >= 0);
+            CHECKS.dueThat("act " + act + " changes something", !told(x).equals(before));
+            due("undo() of act " + act, x.undo(), 3);
+            CHECKS.dueThat("act " + act + " is undone", told(x).equals(before));
+            x.set(1, 0, 50);
+            x.undo();
+            CHECKS.dueThat("a set after act " + act + " is undone", told(x).equals(before));
+        }
+    }
+
+    private static int doAct(ColumnSeasons x, int act) {
+        switch (act) {
+            case 0: return x.add(3, NUMBER, -1) < 0 ? -1 : 0;
+            case 1: return x.drop(1);
+            case 2: return x.kind(0, FLAG);
+            case 3: return x.row();
+            case 4: return x.set(2, 0, 9999);
+            case 5: return x.remove(0);
+            case 6: return x.makeOver(0, 2);
+            case 7: return x.forget();
+            case 8: return x.perform();
+            default: return x.restore();
+        }
+    }
+
+    /** Of the names 0 to 3, to stay under the 512 calls that an object may have. */
+    private static String told(ColumnSeasons x) {
+        StringBuilder told = new StringBuilder();
+        for (int season = 0; season <= x.count(0); season++) {
+            for (int name = 0; name < 4; name++) {
+                told.append(x.column(season, name, 0)).append('/').append(x.column(season, name, 1)).append(' ');
+            }
+        }
+        for (int row = 0; row < x.count(2); row++) {
+            told.append("row of ").append(x.seasonOf(row)).append(": ");
+            for (int name = 0; name < 4; name++) {
+                told.append(x.value(row, name)).append(' ');
+            }
+        }
+        return told.toString();
+    }
+
     private static void promise15Keep() {
         CHECKS.topic("promise 15");
         ColumnSeasons x = new ColumnSeasons();
@@ -686,6 +750,21 @@ public final class PromiseTests {
         due("season(0, 0)", x.season(0, 0), 2);
         due("season(0, 3) of the first one that is kept", x.season(0, 3), 0);
         due("season(1, 3)", x.season(1, 3), 1);
+    }
+
+    private static void promise18SeasonWithoutRemovedRows() {
+        CHECKS.topic("promise 18, removed rows");
+        ColumnSeasons x = withRows(4);
+        due("season(1, 2)", x.season(1, 2), 4);
+        x.remove(3);
+        x.remove(0);
+        due("season(1, 2)", x.season(1, 2), 2);
+        x.add(7, FLAG, 0);
+        x.kind(7, NUMBER);
+        due("season(3, 3), the name 7", x.season(3, 3), 1);
+        x.undo();
+        x.undo();
+        due("names of all seasons without one that was undone", x.count(6), 1);
     }
 
     private static void promise19Value() {
@@ -851,6 +930,20 @@ public final class PromiseTests {
         due("sum", most.viewColumn(0, 1, 0, 1), 19998);
         most.set(0, 0, -9999);
         due("greatest", most.viewColumn(0, 0, 0, 3), -9999);
+        most.row();
+        most.set(2, 0, -5);
+        most.set(1, 0, 3);
+        most.set(0, 0, 2);
+        due("the last one is the least one", most.viewColumn(0, 2, 0, 2), -5);
+        most.set(2, 0, 7);
+        due("the last one is the greatest one", most.viewColumn(0, 2, 0, 3), 7);
+        due("the last one is the sum's too", most.viewColumn(0, 2, 0, 1), 12);
+        due("the last one is unlike the others", most.viewColumn(0, 2, 0, 4), 3);
+        most.kind(0, FLAG);
+        most.row();
+        most.kind(0, NUMBER);
+        most.row();
+        due("the last one is the widest one", most.viewColumn(3, 4, 0, 0), NUMBER);
     }
 
     private static void promise24BestFrom() {
@@ -896,6 +989,28 @@ public final class PromiseTests {
         x.row();
         due("of several the latest one", x.bestSeason(0), 4);
         due("bestSeason(1)", x.bestSeason(1), 2);
+        ColumnSeasons first = new ColumnSeasons();
+        first.add(0, NUMBER, 5);
+        first.row();
+        first.row();
+        first.remove(1);
+        first.row();
+        first.kind(0, DIGIT);
+        first.kind(0, FLAG);
+        first.set(0, 0, 700);
+        first.forget();
+        due("the first season that is kept", first.bestSeason(0), 0);
+        due("without losses", first.bestSeason(1), 0);
+        first.undo();
+        first.drop(0);
+        first.row();
+        first.add(0, FLAG, 0);
+        due("an early one, with fewer losses than any later one", first.bestSeason(0), 1);
+        first.remove(0);
+        due("the latest one of two without losses", first.bestSeason(0), 2);
+        first.remove(1);
+        first.remove(0);
+        due("a removed row loses nothing", first.bestSeason(0), 5);
     }
 
     private static void promise26Count() {
