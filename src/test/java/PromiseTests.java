@@ -1,17 +1,5 @@
 /** One method for each promise of the document: ordinary inputs, the edges that it names, and wrong inputs. */
-public final class PromiseTests {
-    private static final int UNKNOWN = ColumnSeasons.UNKNOWN;
-    private static final int BAD = ColumnSeasons.BAD_VALUE;
-    private static final int FULL = ColumnSeasons.FULL;
-    private static final int NOT_POSSIBLE = ColumnSeasons.NOT_POSSIBLE;
-    private static final int NONE = ColumnSeasons.NONE;
-
-    private static final int FLAG = 0;
-    private static final int DIGIT = 1;
-    private static final int NUMBER = 2;
-
-    private static final Checks CHECKS = new Checks();
-
+public final class PromiseTests extends TestBase {
     public static void main(String[] args) {
         promise01NewObject();
         promise02Add();
@@ -44,47 +32,6 @@ public final class PromiseTests {
         promise25BestSeason();
         promise26Count();
         CHECKS.end();
-    }
-
-    private static void due(String call, long got, long want) {
-        CHECKS.due(call, got, want);
-    }
-
-    private static void write(ColumnSeasons x, String text) {
-        x.clearText();
-        for (int i = 0; i < text.length(); i++) {
-            x.type(text.charAt(i));
-        }
-    }
-
-    private static int perform(ColumnSeasons x, String text) {
-        write(x, text);
-        return x.perform();
-    }
-
-    private static int faultOf(String text) {
-        return -10100 - perform(new ColumnSeasons(), text);
-    }
-
-    /** 30 seasons are kept then, and the column 0 is there, a number. */
-    private static ColumnSeasons fullOfSeasons() {
-        ColumnSeasons x = new ColumnSeasons();
-        x.add(0, NUMBER, 0);
-        for (int i = 0; i < 14; i++) {
-            x.add(1, FLAG, 0);
-            x.drop(1);
-        }
-        return x;
-    }
-
-    private static ColumnSeasons withRows(int rows) {
-        ColumnSeasons x = new ColumnSeasons();
-        x.add(0, NUMBER, 0);
-        for (int i = 0; i < rows; i++) {
-            x.row();
-            x.set(i, 0, i);
-        }
-        return x;
     }
 
     private static void promise01NewObject() {
