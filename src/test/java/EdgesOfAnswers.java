@@ -535,6 +535,15 @@ public final class EdgesOfAnswers extends TestBase {
             y.makeOver(23, 23);
             due("the last row has none", y.bestFrom(), 0);
         }
+        for (int name = 0; name <= 7; name++) {
+            ColumnSeasons y = new ColumnSeasons();
+            y.row();
+            y.add(name, FLAG, 0);
+            y.row();
+            due("a column of the name " + name + " from 1 on", y.bestFrom(), 1);
+            y.makeOver(0, 0);
+            due("a column of the name " + name + " from 0 on", y.bestFrom(), 0);
+        }
     }
 
     private static void promise24OfSeveral() {
@@ -572,7 +581,8 @@ public final class EdgesOfAnswers extends TestBase {
     }
 
     private static void promise25() {
-        topic("25: bestSeason(): the fewest losses (values of columns that it has not, and casts that lose); BAD_VALUE");
+        topic("25: bestSeason(): the fewest losses (values of columns that it has not, and casts that lose); "
+            + "BAD_VALUE");
         ColumnSeasons x = new ColumnSeasons();
         refusedOutside("bestSeason()", 0, 1, BAD, x::bestSeason);
         due("of a new one", x.bestSeason(0), 0);

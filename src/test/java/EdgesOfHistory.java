@@ -5,6 +5,14 @@ import java.util.Deque;
 public final class EdgesOfHistory extends TestBase {
     private static final int ACTS = 10;
 
+    // Each of them, made out of a new table, differs from the first one in one thing.
+    private static final String[] TABLES = {"add 0 number 3;add 5 flag 1;row;set 0 0 9",
+        "add 7 number 3;add 5 flag 1;row;set 0 7 9", "add 0 digit 3;add 5 flag 1;row;set 0 0 9",
+        "add 0 number 4;add 5 flag 1;row;set 0 0 9", "add 0 number 3;row;set 0 0 9",
+        "add 0 number 3;add 5 flag 1", "add 0 number 3;add 5 flag 1;row;set 0 0 8",
+        "add 0 number 3;add 5 flag 1;row;set 0 0 9;row", "add 0 number 3;add 5 flag 1;row;set 0 0 9;drop 5",
+        "add 0 number 3;add 5 flag 1;row;set 0 0 9;kind 0 flag", "add 0 number 3;row;set 0 0 9;add 5 flag 1"};
+
     public static void main(String[] args) {
         fourStates();
         statesComeAndGo();
@@ -16,6 +24,8 @@ public final class EdgesOfHistory extends TestBase {
         snapshotStays();
         snapshotsOfFullAndEmptyTables();
         restoreIsRecorded();
+        allOfATableIsOfAState();
+        defaultsOfForgottenSeasons();
         textIsOfNoState();
         stopIsOfNoState();
         historyIsOfNoState();
@@ -285,6 +295,55 @@ public final class EdgesOfHistory extends TestBase {
     }
 
     // ---- A state is everything but the text, the history, the snapshot and the latest stop
+
+    private static void allOfATableIsOfAState() {
+        topic("A state is everything but these: columns, their kinds and defaults, seasons, rows, dresses, values");
+        for (String first : TABLES) {
+            for (String second : TABLES) {
+                String firstTold = toldOf(first);
+                String secondTold = toldOf(second);
+                CHECKS.dueThat("'" + first + "' and '" + second + "'",
+                    firstTold.equals(secondTold) == first.equals(second));
+                ColumnSeasons x = new ColumnSeasons();
+                perform(x, first);
+                x.keep();
+                x.undo();
+                perform(x, second);
+                x.restore();
+                CHECKS.dueThat("restore() of '" + first + "' behind '" + second + "'", Told.state(x).equals(firstTold));
+                x.undo();
+                CHECKS.dueThat("undo() to '" + second + "' behind '" + first + "'", Told.state(x).equals(secondTold));
+            }
+        }
+    }
+
+    private static String toldOf(String text) {
+        ColumnSeasons x = new ColumnSeasons();
+        perform(x, text);
+        return Told.state(x);
+    }
+
+    private static void defaultsOfForgottenSeasons() {
+        topic("A state is everything but these: the seasons that were forgotten");
+        for (int way = 0; way <= 1; way++) {
+            ColumnSeasons x = new ColumnSeasons();
+            x.add(0, NUMBER, 11);
+            x.add(1, NUMBER, 22);
+            x.row();
+            x.add(2, NUMBER, 33);
+            x.keep();
+            due("forget()", x.forget(), 2);
+            due("column(0, 1, 1)", x.column(0, 1, 1), 22);
+            due("column(1, 2, 1)", x.column(1, 2, 1), 33);
+            due("they come again", way == 0 ? x.undo() : x.restore(), way == 0 ? 3 : 1);
+            due("column(1, 0, 1)", x.column(1, 0, 1), 11);
+            due("column(1, 1, 1)", x.column(1, 1, 1), NONE);
+            due("column(2, 0, 1)", x.column(2, 0, 1), 11);
+            due("column(2, 1, 1)", x.column(2, 1, 1), 22);
+            due("column(3, 2, 1)", x.column(3, 2, 1), 33);
+            due("seasonOf(0)", x.seasonOf(0), 2);
+        }
+    }
 
     private static void textIsOfNoState() {
         topic("A state is everything but the text");

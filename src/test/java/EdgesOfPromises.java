@@ -508,7 +508,8 @@ public final class EdgesOfPromises extends TestBase {
     // ---- stopped
 
     private static void promise13Arguments() {
-        topic("13: stopped(): 0 for the number of the command, 1 for the error; BAD_VALUE; NONE if none was stopped yet");
+        topic("13: stopped(): 0 for the number of the command, 1 for the error; BAD_VALUE; "
+            + "NONE if none was stopped yet");
         ColumnSeasons x = new ColumnSeasons();
         due("stopped(0)", x.stopped(0), NONE);
         due("stopped(1)", x.stopped(1), NONE);

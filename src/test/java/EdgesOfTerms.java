@@ -92,7 +92,8 @@ public final class EdgesOfTerms extends TestBase {
             int least = LEAST_OF_KIND[kind];
             int greatest = GREATEST_OF_KIND[kind];
             ColumnSeasons refuses = new ColumnSeasons();
-            refusedOutside("add() of kind " + kind + " with a default", least, greatest, BAD, s -> refuses.add(0, its, s));
+            refusedOutside("add() with a default of kind " + kind, least, greatest, BAD,
+                standard -> refuses.add(0, its, standard));
             due("count(0)", refuses.count(0), 0);
             for (int standard : new int[] {least, Math.min(least + 1, greatest), 0, greatest - 1, greatest}) {
                 ColumnSeasons x = new ColumnSeasons();
@@ -278,7 +279,8 @@ public final class EdgesOfTerms extends TestBase {
         for (int name = 0; name <= 8; name++) {
             due("row()", x.row(), name);
             for (int other = 0; other <= 7; other++) {
-                due("value(" + name + ", " + other + ")", x.value(name, other), other < name ? columns[other][1] : NONE);
+                int due = other < name ? columns[other][1] : NONE;
+                due("value(" + name + ", " + other + ")", x.value(name, other), due);
             }
             if (name < 8) {
                 x.add(name, columns[name][0], columns[name][1]);
